@@ -1006,7 +1006,9 @@ public final class CommissionHouse {
         }
 
         private void goOn() {
-            here = Math.min(here + 1, count);
+            if (here < count) {
+                here++;
+            }
         }
 
         private void breakOff() {
@@ -1451,7 +1453,6 @@ public final class CommissionHouse {
             below[seller] = 0;
             direct[seller] = 0;
             depth[seller] = 0;
-            rank[seller] = 0;
         }
 
         private void laySales(Sales sales, int window) {

@@ -106,6 +106,14 @@ public final class PlanTextTest {
         fault("quota\t1;", 1, 5);
         fault("quota 1;\u00ff", 1, 8);
         fault("flat 1;", 1, 0);
+        fault("capz 1;", 1, 0);
+        fault("acap 1;", 1, 0);
+        fault("nap 1;", 1, 0);
+        fault("car 1;", 1, 0);
+        fault(";".repeat(600), 1, 0);
+        fault("cap1;".repeat(120), 0, -1);
+        fault("cap1;".repeat(119) + "cap 1", 1, 600);
+        fault("cap1;".repeat(118) + "opens 0 6;", 2, 598);
         fault("1", 1, 0);
         fault("level1flat9;rank2 300 1;\nopens0 5;", 0, -1);
         // a broken text is told ahead of numbers that can't be, wherever they stand

@@ -25,6 +25,7 @@ public final class PromisesTest {
         repaid();
         gapAndLift();
         place();
+        placeFarBelow();
         journalOfMany();
         ranksOverMonths();
         images();
@@ -655,6 +656,21 @@ public final class PromisesTest {
         CHECKS.due("level 2 is flat 5", 24, h.place(1, 499, true));
         CHECKS.due("still ten", 10, h.books(1));
         CHECKS.due("still none sold", 0, h.books(2));
+    }
+
+    /** A leg of 0 brings the rank that opens nothing, so the one place that pays is ten below him. */
+    private static void placeFarBelow() {
+        CHECKS.about("promise 25: ten below");
+        CommissionHouse h = crew(planned("rank 1 500 0;rank 2 500 1;rank 3 9999 4;opens 0 0;opens 1 5;opens 2 0;quota 1;"),
+            0, 1, 2, 3, 4, 5, 6, 7, 8);
+        h.sell(0, 1, 0);
+        for (int seller = 1; seller <= 8; seller++) {
+            CHECKS.due("quit", 0, h.quit(seller));
+        }
+        CHECKS.due("under whom", 9, h.place(0, 499, false));
+        CHECKS.due("how much", 49, h.place(0, 499, true));
+        CHECKS.due("too small a group", 0, h.place(0, 498, false));
+        CHECKS.due("pays nothing", 0, h.place(0, 498, true));
     }
 
     private static void journalOfMany() {

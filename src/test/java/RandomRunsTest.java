@@ -11,12 +11,14 @@ public final class RandomRunsTest {
     private final StringBuilder told = new StringBuilder();
     private final int monthsShare;
     private final int movesShare;
+    private final int oddShare;
     private int calls = 0;
 
     private RandomRunsTest(int seed) {
         random = new Random(seed);
         monthsShare = new int[] {1, 2, 4, 8}[seed % 4];
         movesShare = new int[] {3, 10, 25}[seed % 3];
+        oddShare = seed % 7 == 0 ? 25 : 4;
     }
 
     public static void main(String[] args) {
@@ -73,8 +75,8 @@ public final class RandomRunsTest {
 
     /** Mostly one that is there, now and then a wrong number. */
     private int among(int count) {
-        if (chance(4)) {
-            int[] odd = {-1, -2, count, count + 1, Integer.MAX_VALUE, Integer.MIN_VALUE, 1000000};
+        if (chance(oddShare)) {
+            int[] odd = {-1, -2, count, count + 1, count - 1, 0, 1 << 30, Integer.MAX_VALUE, Integer.MIN_VALUE, 1000000};
             return odd[up(odd.length)];
         }
         return count <= 0 ? 0 : up(count);
@@ -89,7 +91,7 @@ public final class RandomRunsTest {
     }
 
     private int monthNear(int behind, int ahead) {
-        if (chance(3)) {
+        if (chance(oddShare)) {
             int[] odd = {-1, 0, 99, 100, Integer.MAX_VALUE, Integer.MIN_VALUE, Integer.MAX_VALUE - 3};
             return odd[up(odd.length)];
         }
@@ -97,7 +99,7 @@ public final class RandomRunsTest {
     }
 
     private int amount() {
-        if (chance(4)) {
+        if (chance(oddShare)) {
             int[] odd = {0, -1, 9999, 10000, Integer.MAX_VALUE, Integer.MIN_VALUE, 1};
             return odd[up(odd.length)];
         }

@@ -8,6 +8,10 @@ final class Checks {
         about = what;
     }
 
+    int asked() {
+        return asked;
+    }
+
     void due(String call, long want, long got) {
         asked++;
         if (got != want) {
@@ -18,6 +22,14 @@ final class Checks {
 
     void due(String call, boolean want, boolean got) {
         due(call, want ? 1 : 0, got ? 1 : 0);
+    }
+
+    void due(String call, String want, String got) {
+        asked++;
+        if (!want.equals(got)) {
+            wrong++;
+            System.out.println(about + ": " + call + " answered " + got + ", due is " + want);
+        }
     }
 
     /** Ends the program, with 1 if an answer was wrong. */

@@ -239,16 +239,18 @@ public final class QuestionEdgesTest extends Edges {
         CommissionHouse h = crew(planned("rank 1 150 0;" + quota), 0, 0, 0, 0);
         is(2, h.lift(0, 1, false));
         is(0b00110, h.lift(0, 1, true));
-        // one that is enough by itself, though its bits are greater than those of two
-        h.sell(4, 10, 0);
         h.sell(0, 50, 0);
         is(1, h.lift(0, 1, false));
         is(0b00010, h.lift(0, 1, true));
-        h.sell(1, 20, 0);
-        h.sell(2, 20, 0);
-        h.sell(3, 20, 0);
-        // 120: 30 lack; each of them sells 80, and 4 sells 90
-        is(0b00010, h.lift(0, 1, true));
+        // one that is enough by itself, though its bits are greater than those of two: 1 and 2 bring 50 each, 3 brings 100
+        h = crew(planned("rank 1 200 0;" + quota), 0, 0, 0);
+        h.sell(1, 50, 0);
+        h.sell(2, 50, 0);
+        is(1, h.lift(0, 1, false));
+        is(0b1000, h.lift(0, 1, true));
+        h.quit(3);
+        is(2, h.lift(0, 1, false));
+        is(0b0110, h.lift(0, 1, true));
         h = crew(planned("rank 1 150 0;" + quota), 0, 0, 0);
         h.sell(1, 90, 0);
         h.sell(2, 40, 0);

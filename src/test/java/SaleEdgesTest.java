@@ -1344,6 +1344,10 @@ public final class SaleEdgesTest extends Edges {
         one.sell(3, 10, 0);
         is(2, one.books(18));
         is(1, one.books(19));
+        // one who has quit has it still
+        one.quit(1);
+        is(2, one.books(18));
+        is(1, one.books(19));
         h.sell(2, 5, 0);
         is(3, h.books(18));
         is(0, h.books(19));

@@ -204,6 +204,7 @@ public final class TreeEdgesTest extends Edges {
         is(0b0010, h.tree(0, 0, 3));
         is(0b1110, h.tree(1, 0, 2));
         is(3, h.tree(0, 0, 9));
+        is(3, h.tree(3, 0, 1));
         is(1, h.common(1, 3, 0));
         pass(h, 4);
         is(0b1110, h.tree(1, 10, 2));
